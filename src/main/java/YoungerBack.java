@@ -120,7 +120,7 @@ public final class YoungerBack {
             latestFault = tape.fault;
             return BEFORE_FAULTS - tape.faultPlace;
         }
-        current.becomes(draft);
+        current.standsAs(draft);
         isRead = true;
         acts.forget();
         return current.peopleCount;
@@ -350,7 +350,7 @@ public final class YoungerBack {
         if (!isRead) {
             return STATE;
         }
-        images[k].becomes(current);
+        images[k].standsAs(current);
         isKept[k] = true;
         return 1;
     }
@@ -362,7 +362,7 @@ public final class YoungerBack {
         if (!isKept[k]) {
             return STATE;
         }
-        current.becomes(images[k]);
+        current.standsAs(images[k]);
         acts.forget();
         return 1;
     }
@@ -650,7 +650,7 @@ public final class YoungerBack {
             }
         }
 
-        void becomes(League other) {
+        void standsAs(League other) {
             harbours = other.harbours;
             rate = other.rate;
             wayCount = other.wayCount;

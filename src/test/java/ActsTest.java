@@ -10,6 +10,7 @@ public final class ActsTest {
         sailsRefused();
         stay();
         meet();
+        meetOfTheLess();
         borrow();
         owed();
         undo();
@@ -144,6 +145,17 @@ public final class ActsTest {
         c.due("undo", x.undo(), 4);
         c.person(x, 0, 1, 10, 34, 6);
         c.person(x, 2, 1, 13, 18, 0);
+    }
+
+    private static void meetOfTheLess() {
+        YoungerBack x = Checks.with(ALL + "person captain 0 30;person monk 0 30;");
+        x.stay(1, 6);
+        x.borrow(0, 100);
+        c.due("a is less", x.meet(0, 1), 0);
+        c.person(x, 0, 0, 6, 36, 0, 176, 176);
+        c.person(x, 1, 0, 6, 36, 0, 0, 0);
+        c.due("undo", x.undo(), 2);
+        c.person(x, 0, 0, 0, 30, 0, 100, 100);
     }
 
     private static void borrow() {

@@ -84,6 +84,9 @@ public final class ForetoldTest {
         YoungerBack far = Checks.with("law 5 0;way 0 1 20 4;way 1 2 20 0;way 2 3 20 0;way 3 4 20 9;person clerk 4 0;");
         c.due("in any time", far.voyages(0, 0), 4);
         c.due("though not within 40 years", far.gains(0, 0, 40, 0), 0);
+        Checks.read(far, "law 5 0;way 0 1 1 1;person clerk 1 0;");
+        c.due("ways of the league before are none", far.voyages(0, 2), Checks.NONE);
+        c.due("ways of the league before are none", far.gains(0, 2, 40, 0), 0);
     }
 
     private static void even() {

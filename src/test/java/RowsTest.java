@@ -39,9 +39,12 @@ public final class RowsTest {
         c.due("last of most", x.set(3, 39, 5), 5);
         c.due("in place", x.row(3, 2, 40), 40);
         c.due("rows", x.count(0), 3);
-        YoungerBack zero = new YoungerBack();
-        Checks.rowOf(zero, 1, 0, 0, 0);
-        c.due("items are 0 again", itemAsWay(x, 3, 39), 0);
+        x.set(0, 0, 5);
+        x.set(0, 2, 5);
+        x.row(0, 0, 3);
+        c.due("item 39 is 0 again", itemAsWay(x, 3, 39), 0);
+        c.due("item 0 is 0 again", itemAsWay(x, 0, 0), 0);
+        c.due("item 2 is 0 again", itemAsWay(x, 0, 2), 0);
         c.due("row -1", x.row(-1, 0, 1), Checks.BAD);
         c.due("row 8", x.row(8, 0, 1), Checks.BAD);
         c.due("lane -1", x.row(0, -1, 1), Checks.BAD);

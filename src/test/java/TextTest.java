@@ -86,6 +86,10 @@ public final class TextTest {
         faulty("Law 1 0;", 0, 1);
         faulty("lawx 1 0;", 0, 1);
         faulty("la 1 0;", 0, 1);
+        faulty("daw 1 0;", 0, 1);
+        faulty("1 0;", 0, 1);
+        faulty("law 1 0,", 7, 1);
+        faulty("law 1 0:", 7, 1);
         faulty("law law", 4, 1);
         faulty("law ; 0;", 4, 1);
         faulty("law 1 0 0;", 8, 1);
