@@ -1,11 +1,18 @@
+import java.io.IOException;
 import java.nio.charset.StandardCharsets;
+import java.nio.file.Files;
+import java.nio.file.Path;
 
 /** Counts answers that are not as due; each test's main ends with it. */
 final class Checks {
     static final int NONE = -1000000, BAD = -1000001, STATE = -1000002, FULL = -1000003;
     static final int NULL = -1000011, PLACE = -1000012, KIND = -1000013, SIZE = -1000014, STORE = -1000015;
 
+    private static final Path DOCUMENT = Path.of("../shared/DOC.md");
+
     private final String name;
+    private String document = null;
+    private String sentence = "";
     private int made = 0;
     private int wrong = 0;
 
@@ -17,7 +24,26 @@ final class Checks {
         made++;
         if (got != want) {
             wrong++;
-            System.out.println(name + ": " + what + " answered " + got + ", due is " + want);
+            System.out.println(name + ": " + sentence + what + " answered " + got + ", due is " + want);
+        }
+    }
+
+    /** The sentence of the document, word by word, that the checks behind this call are of. */
+    void says(String words) {
+        if (document == null) {
+            document = readDocument();
+        }
+        sentence = "";
+        holds("'" + words + "' is in the document", document.isEmpty() || document.contains(words));
+        sentence = "'" + words + "': ";
+    }
+
+    // a checkout may lie where no document is: then the words are taken as they are quoted
+    private static String readDocument() {
+        try {
+            return Files.readString(DOCUMENT, StandardCharsets.UTF_8).replaceAll("\\s+", " ");
+        } catch (IOException e) {
+            return "";
         }
     }
 
