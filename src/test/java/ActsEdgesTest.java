@@ -7,6 +7,8 @@ public final class ActsEdgesTest {
     public static void main(String[] args) {
         agesOfAllWays();
         clockOfSailing();
+        lagOfWays();
+        endsOfWays();
         sailsAsLongAsHeCan();
         clockOfStaying();
         meetings();
@@ -37,7 +39,7 @@ public final class ActsEdgesTest {
     }
 
     private static void agesOfAllWays() {
-        c.says("AGE is more by OWN; for a pilot by 1 less (0 at least), for a monk by 0, for a clerk by SHORE; a boy sails as a captain, but no way with a SHORE above 10.");
+        c.says("He SAILS a way that has an end in his HARBOUR, to its other end: CLOCK is SHORE more, AGE is more by OWN; for a pilot by 1 less (0 at least), for a monk by 0, for a clerk by SHORE; a boy sails as a captain, but no way with a SHORE above 10.");
         for (int sort = 1; sort <= 5; sort++) {
             for (int shore = 1; shore <= 20; shore++) {
                 for (int own = 0; own <= shore; own++) {
@@ -84,6 +86,39 @@ public final class ActsEdgesTest {
             YoungerBack beyond = atClock(text, LAST + 1 - shore);
             c.due("201 by " + shore, beyond.sail(0, 0), Checks.FULL);
             c.person(beyond, 0, 0, LAST + 1 - shore, LAST + 1 - shore, 0);
+        }
+    }
+
+    private static void lagOfWays() {
+        c.says("LAG: CLOCK, and AGE as told, less AGE.");
+        YoungerBack x = Checks.with("law 2 0;way 0 1 20 0;person monk 0 99;person clerk 0 99;");
+        for (int k = 0; k <= 10; k++) {
+            c.due("LAG of " + k + " voyages", x.person(0, 3), 20 * k);
+            c.due("AGE of " + k + " voyages", x.person(0, 2), 99);
+            c.due("LAG of a clerk", x.person(1, 3), 0);
+            c.due("AGE of a clerk", x.person(1, 2), 99 + 20 * k);
+            x.sail(0, 0);
+            x.sail(1, 0);
+        }
+        YoungerBack y = Checks.with("law 2 0;way 0 1 3 1;person pilot 0 7;");
+        y.stay(0, 10);
+        c.due("LAG of a stay", y.person(0, 3), 0);
+        y.sail(0, 0);
+        y.stay(0, 10);
+        c.due("LAG of a voyage between stays", y.person(0, 3), 3);
+    }
+
+    private static void endsOfWays() {
+        c.says("BAD; STATE: it has no end there, he may not; FULL: CLOCK.");
+        String text = "law 5 0;way 0 1 1 1;way 1 2 1 1;way 2 3 1 1;way 3 4 1 1;way 4 0 1 1;way 0 2 1 1;way 1 3 1 1;way 2 4 1 1;";
+        int[][] ends = {{0, 1}, {1, 2}, {2, 3}, {3, 4}, {4, 0}, {0, 2}, {1, 3}, {2, 4}};
+        for (int at = 0; at < 5; at++) {
+            for (int way = 0; way < 8; way++) {
+                YoungerBack x = Checks.with(text + "person boy " + at + " 5;");
+                int to = ends[way][0] == at ? ends[way][1] : ends[way][1] == at ? ends[way][0] : Checks.STATE;
+                c.due("WAY " + way + " from " + at, x.sail(0, way), to);
+                c.due("HARBOUR", x.person(0, 0), Math.max(to, -1) < 0 ? at : to);
+            }
         }
     }
 

@@ -8,6 +8,7 @@ public final class AskedEdgesTest {
         sizesOfAll();
         marksOfAll();
         askedAsTheyAreNow();
+        nearestKinds();
         traceOfTheLatest();
         imagesOfNothing();
         imagesInPlace();
@@ -16,6 +17,7 @@ public final class AskedEdgesTest {
         imagesOfEarlierLeagues();
         countsOfNothing();
         countsOfMost();
+        calls512();
         c.end();
     }
 
@@ -116,6 +118,17 @@ public final class AskedEdgesTest {
             c.due("SIZE at 0", x.ask(1, 0), size(sort, 99, 1, 0));
             c.due("MARK at 0", x.ask(1, 1), mark(sort, 99, 1, 0));
         }
+    }
+
+    private static void nearestKinds() {
+        c.says("(Of an ask the BODY told for the KIND begins, else that of the nearest KIND that it is, too, else the one that is lent; SIZE, MARK within others are asked of the same one anew.)");
+        YoungerBack x = Checks.with("law 1 0;person monk 0 40;person boy 0 10;person pilot 0 28;");
+        c.due("a monk's SIZE is a captain's, with a monk's MARK", x.ask(0, 0), 40 + 0 - 1000);
+        c.trace(x, 11, 10, 22, 21, 20);
+        c.due("a boy's MARK is a clerk's, with a boy's SIZE", x.ask(1, 1), 1 + 2 * 90);
+        c.trace(x, 23, 20, 14, 13, 10);
+        c.due("a pilot's SIZE asks for a pilot's MARK", x.ask(2, 0), -(28 + 2 * 2));
+        c.trace(x, 12, 11, 10, 24, 21, 20);
     }
 
     private static void traceOfTheLatest() {
@@ -279,5 +292,28 @@ public final class AskedEdgesTest {
         }
         c.due("7", x.count(7), Checks.BAD);
         c.due("-1", x.count(-1), Checks.BAD);
+    }
+
+    private static void calls512() {
+        c.says("An object is used for at most 512 calls after it has been made;");
+        YoungerBack x = new YoungerBack();
+        int calls = 0;
+        for (byte b : "law 2 0;way 0 1 9 1;person monk 0 7;".getBytes(java.nio.charset.StandardCharsets.ISO_8859_1)) {
+            x.feed(b, 1);
+            calls++;
+        }
+        c.due("league()", x.league(), 1);
+        calls++;
+        while (calls < 510) {
+            c.due("call " + calls, x.meet(0, 0), Checks.BAD);
+            c.due("call " + calls, x.gains(0, 1, 40, 2), 27);
+            calls += 2;
+            if (calls < 510) {
+                c.due("call " + calls, x.stay(0, 1) > 7 ? 1 : 0, 1);
+                calls++;
+            }
+        }
+        c.due("call 511", x.count(4), 24);
+        c.due("call 512", x.undo(), 23);
     }
 }

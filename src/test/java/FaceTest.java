@@ -27,6 +27,7 @@ public final class FaceTest {
         members();
         names();
         words();
+        headings();
         c.end();
     }
 
@@ -90,8 +91,28 @@ public final class FaceTest {
         }
     }
 
+    private static String source() throws Exception {
+        return Files.readString(Path.of("src/main/java/YoungerBack.java"), StandardCharsets.ISO_8859_1);
+    }
+
+    /** What the interface says ahead of the calls, each of them behind its heading, in the document's order. */
+    private static void headings() throws Exception {
+        String source = source();
+        int at = 0;
+        String[] order = {"---- rows", "int row(", "int set(", "int copy(", "int drop(", "---- leagues, voyages", "int feed(",
+            "int league(", "int fault(", "int sail(", "int sails(", "int stay(", "int meet(", "int borrow(", "int undo(",
+            "int person(", "---- foretold", "int gains(", "int soonest(", "int voyages(", "int even(", "int where(",
+            "int gone(", "int eldest(", "int image(", "int restore(", "---- asked", "int kind(", "int as(", "int ask(",
+            "int trace(", "int count(", "int status("};
+        for (String next : order) {
+            int found = source.indexOf(next);
+            c.holds(next + " behind what is ahead of it", found > at);
+            at = found;
+        }
+    }
+
     private static void words() throws Exception {
-        String source = Files.readString(Path.of("src/main/java/YoungerBack.java"), StandardCharsets.ISO_8859_1);
+        String source = source();
         String code = source.replaceAll("(?s)/\\*.*?\\*/", "").replaceAll("//[^\n]*", "");
         for (String word : RULED_OUT) {
             String whole = Character.isLetter(word.charAt(0)) ? "\\b" + word + "\\b" : word;

@@ -17,8 +17,10 @@ public final class ForetoldEdgesTest {
         soonestJustSo();
         voyagesInAnyTime();
         voyagesOfBoys();
+        waysOfBefore();
         evenAtOnce();
         evenBehind40();
+        evenOfAllAges();
         evenOfTwoClocks();
         evenOfGains();
         evenBeyond200();
@@ -218,6 +220,21 @@ public final class ForetoldEdgesTest {
         }
     }
 
+    private static void waysOfBefore() {
+        c.says("A LEAGUE that is read stands in place of the one before (none at first):");
+        YoungerBack x = Checks.with(CHAIN + "person captain 0 0;");
+        x.gains(0, 4, 40, 0);
+        Checks.read(x, "law 5 0;way 0 1 3 3;person captain 0 0;person captain 0 0;");
+        for (int h = 2; h < 5; h++) {
+            c.due("no way any more to " + h, x.voyages(0, h), NONE);
+            gains(x, 0, h, 40, 0, NONE, NONE);
+            c.due("no way any more to " + h, x.soonest(0, h, 40), NONE);
+            c.due("no way any more to " + h, x.even(0, 1, h), NONE);
+        }
+        c.due("no way any more", x.where(0, 40, 40), 3);
+        c.due("no gain any more", x.where(0, 40, 0), 0);
+    }
+
     private static void voyagesOfBoys() {
         c.says("a boy sails as a captain, but no way with a SHORE above 10.");
         YoungerBack x = Checks.with("law 4 0;way 0 1 11 0;way 0 2 10 0;way 2 1 10 0;way 1 3 20 0;person boy 0 0;person captain 0 0;");
@@ -266,6 +283,28 @@ public final class ForetoldEdgesTest {
         c.due("both behind 40", x.even(0, 1, 2), 40);
         c.due("both behind 41", x.even(0, 1, 3), NONE);
         c.due("one of them behind 41", x.even(0, 2, 3), NONE);
+    }
+
+    /** Two who gain one by one: of as many years apart as the one can gain they can be even, of no more. */
+    private static void evenOfAllAges() {
+        for (int age = 0; age <= 99; age++) {
+            YoungerBack x = Checks.with("law 2 0;way 0 1 2 1;person captain 0 " + age + ";person clerk 0 0;person clerk 0 99;");
+            c.due("elder by " + age, x.even(0, 1, age % 2), age <= 20 ? 2 * age : NONE);
+            c.due("younger by " + age, x.even(1, 0, age % 2), age <= 20 ? 2 * age : NONE);
+            c.due("younger than a clerk by " + (99 - age), x.even(0, 2, 0), age == 99 ? 0 : NONE);
+            c.due("a clerk, elder by " + (99 - age), x.even(2, 0, 0), age == 99 ? 0 : NONE);
+            YoungerBack y = Checks.with("law 2 0;way 0 1 1 1;person monk 0 " + age + ";person clerk 0 0;");
+            c.due("a monk, elder by " + age, y.even(0, 1, age % 2), age <= MOST ? age : NONE);
+            c.due("a clerk, younger by " + age, y.even(1, 0, age % 2), age <= MOST ? age : NONE);
+        }
+        YoungerBack apart = Checks.with("law 2 0;way 0 1 1 1;person monk 0 99;person clerk 0 0;");
+        for (int clock = 0; clock <= 200; clock++) {
+            // 99 years elder and behind by 0 to 200: by more than 40 never, for the clocks or for the ages
+            c.due("99 elder, the other one at " + clock, apart.even(0, 1, 0), NONE);
+            if (clock < 200) {
+                apart.stay(1, 1);
+            }
+        }
     }
 
     private static void evenOfTwoClocks() {

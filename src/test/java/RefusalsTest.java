@@ -22,6 +22,8 @@ public final class RefusalsTest {
     private static List<Integer> untouched = Told.of(busy());
 
     public static void main(String[] args) {
+        newObject();
+        findings();
         inState(RefusalsTest::busy);
         rowsRefused();
         copyRefused();
@@ -122,6 +124,36 @@ public final class RefusalsTest {
     private static void asksOnly(String call, Call asked, int due) {
         c.holds(call + " is no refusal", due > NONE || due == NONE);
         refused(call, asked, due);
+    }
+
+    private static void newObject() {
+        c.says("`YoungerBack()`: No LEAGUE.");
+        YoungerBack x = new YoungerBack();
+        c.due("status() of a new one", x.status(), 0);
+        c.due("fault() of a new one", x.fault(), 0);
+        for (int what = 0; what <= 6; what++) {
+            c.due("count(" + what + ") of a new one", x.count(what), 0);
+        }
+        c.due("trace(0) of a new one", x.trace(0), NONE);
+        c.due("eldest(0) of a new one", x.eldest(0), STATE);
+        c.holds("two new ones are alike", Told.of(x).equals(Told.of(new YoungerBack())));
+    }
+
+    private static void findings() {
+        c.says("-1000010 less 1 NULL (a ROW that is missing), 2 PLACE (no such place of a ROW), 3 KIND (one of the PEOPLE that is not that), 4 SIZE (fewer than none), 5 STORE (ROWS of two LANES).");
+        YoungerBack x = busy();
+        c.due("NULL", x.drop(6), -1000011);
+        c.due("status()", x.status(), 1);
+        c.due("PLACE", x.set(0, 5, 0), -1000012);
+        c.due("status()", x.status(), 2);
+        c.due("KIND", x.as(0, 2), -1000013);
+        c.due("status()", x.status(), 3);
+        c.due("SIZE", x.row(6, 2, -1), -1000014);
+        c.due("status()", x.status(), 4);
+        c.due("STORE", x.copy(0, 0, 3, 0, 1), -1000015);
+        c.due("status()", x.status(), 5);
+        c.says("What is refused, or found, changes nothing but status().");
+        c.holds("all of them change nothing", Told.of(x).equals(Told.of(busy())));
     }
 
     private static void rowsRefused() {

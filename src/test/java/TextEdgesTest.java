@@ -172,7 +172,7 @@ public final class TextEdgesTest {
 
     private static void names() {
         c.says("law: 'law' HARBOURS RATE ';'");
-        String[] none = {"l", "la", "lawa", "lawz", "laws", "low", "lax", "aw", "llaw", "way", "person", "boy"};
+        String[] none = {"l", "la", "lawa", "lawz", "laws", "low", "lax", "daw", "raw", "aw", "llaw", "way", "person", "boy"};
         for (String name : none) {
             faulty(name + " 1 0;", 0, 1);
         }
@@ -186,6 +186,9 @@ public final class TextEdgesTest {
         faulty("law 2 0;person boy 0 0;way 0 1 1 1;", 23, 1);
         faulty("law 2 0;wa 0 1 1 1;", 8, 1);
         faulty("law 2 0;ways 0 1 1 1;", 8, 1);
+        faulty("law 2 0;day 0 1 1 1;", 8, 1);
+        faulty("law 2 0;berson boy 0 0;", 8, 1);
+        faulty("law 2 0;person toy 0 0;", 15, 1);
         faulty("law 2 0;Way 0 1 1 1;", 8, 1);
         faulty("law 2 0;perso boy 0 0;", 8, 1);
         faulty("law 2 0;persons boy 0 0;", 8, 1);
@@ -405,7 +408,7 @@ public final class TextEdgesTest {
     }
 
     private static void inPlaceOfTheOneBefore() {
-        c.says("the CLOCK of each is 0, nobody owes anything; no ACT can be undone; IMAGES and ROWS stay.");
+        c.says("A LEAGUE that is read stands in place of the one before (none at first): the CLOCK of each is 0, nobody owes anything; no ACT can be undone; IMAGES and ROWS stay.");
         String text = "law 2 20;way 0 1 5 1;person captain 0 30;person monk 1 99;";
         YoungerBack x = Checks.with(text);
         Checks.rowOf(x, 3, 0, 0);
@@ -440,7 +443,7 @@ public final class TextEdgesTest {
     }
 
     private static void faultLeavesAll() {
-        c.says("all but the tape, and what fault() tells, stays.");
+        c.says("-1000100 less the place of a FAULT: all but the tape, and what fault() tells, stays.");
         String[] faults = {"", "law 1 0", "law 3 9;way 0 2 9 9;person monk 0 0;person clerk 9", WAYS + "way"};
         for (String fault : faults) {
             YoungerBack x = beforeFault();
