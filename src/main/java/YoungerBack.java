@@ -938,7 +938,7 @@ public final class YoungerBack {
         }
 
         private void passRun(int least, int most) {
-            while (isBetween(least, most)) {
+            while (behind < many && isBetween(least, most)) {
                 behind++;
             }
         }
